@@ -522,8 +522,7 @@ public final class PromisesTest {
         due.same("check(2)", x.check(2), "0");
         x.feedCheck(2, 2);
         due.same("check of a check", x.check(2), CHECK_OF_CHECK);
-        // These four bytes lead a new register to the checks 7, 10 and 4294967295.
-        for (long check : new long[] {7, 10, 4294967295L}) {
+        for (long check : new long[] {9, 10, 2147483648L, 4294967295L}) {
             Checkrow led = new Checkrow();
             led.feedLowFirst(0, fourBytesFor((int) check));
             due.same("check that is led to " + check, led.check(0), Long.toString(check));
