@@ -1,5 +1,6 @@
 import java.util.ArrayList;
 import java.util.Arrays;
+import java.util.Collections;
 import java.util.HashSet;
 import java.util.List;
 import java.util.Set;
@@ -10,6 +11,9 @@ import java.util.zip.CRC32C;
  * bytes that it was fed, checks are the Java library's, and a flipped bit is flipped.
  */
 final class Model {
+    static final int REGISTERS = 4;
+    static final int TEXTS = 6;
+
     static final class Refusal extends Exception {
         private static final long serialVersionUID = 1L;
         final Class<? extends RuntimeException> due;
@@ -24,10 +28,10 @@ final class Model {
     int refused;
 
     Model() {
-        for (int i = 0; i < 4; i++) {
+        for (int i = 0; i < REGISTERS; i++) {
             registers.add(new ArrayList<>());
         }
-        for (int i = 0; i < 6; i++) {
+        for (int i = 0; i < TEXTS; i++) {
             texts.add(new ArrayList<>());
         }
     }
@@ -45,12 +49,23 @@ final class Model {
             case "house":
                 return house(a[0]);
             case "isSound":
-                return true;
+                return isSound();
             case "digest":
                 return digest();
             default:
                 return tellingOfTexts(name, a);
         }
+    }
+
+    /** The length of the text that one of the first arguments names (by the letter t); 0 without one. */
+    int lengthOf(String kinds, int[] a, int many) {
+        int length = 0;
+        for (int i = 0; i < many; i++) {
+            if (kinds.charAt(i) == 't' && within(a[i], 0, TEXTS - 1)) {
+                length = texts.get(a[i]).size();
+            }
+        }
+        return length;
     }
 
     private Object feeding(String name, int[] a) throws Refusal {
@@ -137,10 +152,7 @@ final class Model {
                 List<Integer> other = text(a[1]);
                 text(a[2]);
                 due(text.size() == other.size(), IllegalStateException.class);
-                List<Integer> changed = new ArrayList<>();
-                for (int i = 0; i < text.size(); i++) {
-                    changed.add(text.get(i) ^ other.get(i));
-                }
+                List<Integer> changed = changed(text, other);
                 texts.set(a[2], changed);
                 return changed.stream().mapToInt(Integer::bitCount).sum();
             }
@@ -261,7 +273,7 @@ final class Model {
         }
         addPairs(values, "apartOf", 6);
         addPairs(values, "findFlip", 4);
-        values.add(1L);
+        values.add(isSound() ? 1L : 0L);
         long sum = 7733;
         for (long value : values) {
             sum = sum * 31 + value;
@@ -335,6 +347,45 @@ final class Model {
 
     static List<Integer> fourBytes(int number) {
         return new ArrayList<>(Arrays.asList(number & 255, number >> 8 & 255, number >> 16 & 255, number >> 24 & 255));
+    }
+
+    /** Word by word what the document asks, with each flipped text and each changed text written out. */
+    private boolean isSound() {
+        for (List<Integer> text : texts) {
+            if (!isSoundText(text)) {
+                return false;
+            }
+        }
+        for (List<Integer> one : texts) {
+            for (List<Integer> other : texts) {
+                if (one.size() == other.size() && !isSoundPair(one, other)) {
+                    return false;
+                }
+            }
+        }
+        return true;
+    }
+
+    private static boolean isSoundText(List<Integer> text) {
+        List<Integer> one = joined(text, fourBytes((int) check(text)));
+        List<Integer> other = fourBytes((int) check(List.of()));
+        return check(one) == check(other)
+                && check(joined(one, text)) == check(joined(other, text))
+                && check(one) == 1214729159L
+                && flips(text) == 1 + 8 * text.size();
+    }
+
+    private static boolean isSoundPair(List<Integer> one, List<Integer> other) {
+        long checkOfZeros = check(Collections.nCopies(one.size(), 0));
+        return (check(changed(one, other)) ^ checkOfZeros) == (check(one) ^ check(other));
+    }
+
+    private static List<Integer> changed(List<Integer> one, List<Integer> other) {
+        List<Integer> changed = new ArrayList<>();
+        for (int place = 0; place < one.size(); place++) {
+            changed.add(one.get(place) ^ other.get(place));
+        }
+        return changed;
     }
 
     private static List<Integer> backward(List<Integer> row) {
