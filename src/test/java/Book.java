@@ -13,7 +13,7 @@ final class Book {
 
     private static final Path DOCUMENT = Path.of("../shared/DOC.md");
     /** Headings, signatures, and what tells how the document itself is ordered. */
-    private static final String NOT_ASKED = "#.*|==.*|----.*|`.*|The constructor and the methods follow.*|Checks of bytes:.*";
+    private static final String NOT_ASKED = "#.*|==.*|----.*|`.*|The constructor and the methods follow.*";
     private static final char NAMED = '\0';
 
     private final Due due;

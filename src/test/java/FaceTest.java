@@ -17,6 +17,7 @@ public final class FaceTest {
     public static void main(String[] args) throws Exception {
         Due due = new Due();
         due.same("the face", face(), documentsFace());
+        due.same("the promises' signatures", face(), promisesFace());
         due.same("public and final", Checkrow.class.getModifiers(), Modifier.PUBLIC | Modifier.FINAL);
         for (Field field : Checkrow.class.getDeclaredFields()) {
             due.same("private " + field.getName(), Modifier.isPrivate(field.getModifiers()), true);
@@ -76,7 +77,19 @@ public final class FaceTest {
     private static Set<String> documentsFace() throws Exception {
         return Files.readAllLines(DOCUMENT).stream()
                 .filter(line -> line.startsWith("    public "))
-                .map(line -> line.trim().replaceAll("(int|long|boolean|String) \\w+(?=[,)])", "$1").replace(";", ""))
+                .map(line -> withoutNames(line.trim().replace(";", "")))
                 .collect(Collectors.toCollection(TreeSet::new));
+    }
+
+    /** Each promise begins with the signature of what it promises. */
+    private static Set<String> promisesFace() throws Exception {
+        return Files.readAllLines(DOCUMENT).stream()
+                .filter(line -> line.startsWith("`") && !line.startsWith("```"))
+                .map(line -> "public " + withoutNames(line.replace("`", "")))
+                .collect(Collectors.toCollection(TreeSet::new));
+    }
+
+    private static String withoutNames(String signature) {
+        return signature.replaceAll("(int|long|boolean|String) \\w+(?=[,)])", "$1");
     }
 }

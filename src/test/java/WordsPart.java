@@ -12,6 +12,7 @@ final class WordsPart extends Part {
     @Override
     void test() {
         section(Book.WORDS);
+        whatItIs();
         numbers();
         bits();
         registers();
@@ -23,6 +24,41 @@ final class WordsPart extends Part {
         exceptions();
         namedFirst();
         calls();
+    }
+
+    private void whatItIs() {
+        says("Checks of bytes: four REGISTERS side by side that are fed with bytes, one by one, and tell a CHECK each, "
+                + "and six TEXTS, rows of bytes, that are typed, changed, joined, and fed to them.");
+        // Fed by turns, each register tells what it tells if it alone is fed.
+        Run turns = run();
+        for (int turn = 0; turn < 9; turn++) {
+            for (int register = 0; register < 4; register++) {
+                turns.call("feed", register, 49 + turn + 50 * register);
+            }
+        }
+        for (int register = 0; register < 4; register++) {
+            Object alone = run().calls("feedRow(0, " + (49 + 50 * register) + ", 1, 9); check(0)");
+            turns.same(turns.call("check", register), alone);
+        }
+        turns.sameState();
+        // The nine bytes of the document's example in two texts, one of them mended, joined, and fed to a register.
+        answers("3808858755", "typeRow(0, 49, 1, 4); typeRow(5, 53, 1, 5); set(5, 2, 0); flip(0, 3, 7); "
+                + "typeRow(1, 0, 0, 3); type(1, 128); change(0, 1, 0); set(5, 2, 55); join(0, 5, 3); feedText(1, 3); "
+                + "check(1)");
+
+        says("One asks for CHECKS by their halves, bits, and digits, for what TEXTS would tell, for changed bits and "
+                + "where they are.");
+        String nine = "feedRow(2, 49, 1, 9); typeRow(4, 49, 1, 9); ";
+        answers(37507, nine + "low(2)");
+        answers(58118, nine + "high(2)");
+        answers(true, nine + "hasBit(2, 31)");
+        answers(false, nine + "hasBit(2, 2)");
+        answers("3808858755", nine + "check(2)");
+        answers("e3069283", nine + "hex(2)");
+        answers("e3069283", nine + "hexOf(4)");
+        answers(true, nine + "isCheckOf(4, 2)");
+        answers(false, nine + "flip(4, 8, 7); isCheckOf(4, 2)");
+        answers(71, nine + "flip(4, 8, 7); findFlip(4, 2)");
     }
 
     private void numbers() {
